@@ -67,36 +67,31 @@ public final class PlainPort {
 
     public int place(int box, int time, int known) throws IllegalArgumentException {
         requireBelow(box, BOXES);
-        requireTimes(time, known);
         draw(picture, time, known);
         return picture.slots[box];
     }
 
     public int at(int slot, int time, int known) throws IllegalArgumentException {
         requireBelow(slot, SLOTS);
-        requireTimes(time, known);
         draw(picture, time, known);
         return picture.boxIn(slot);
     }
 
     public int state(int declaration, int time, int known) throws IllegalArgumentException {
         requireBelow(declaration, DECLARATIONS);
-        requireTimes(time, known);
         draw(picture, time, known);
         return picture.states[declaration];
     }
 
     public int sum(int declaration, int time, int known) throws IllegalArgumentException {
         requireBelow(declaration, DECLARATIONS);
-        requireTimes(time, known);
         draw(picture, time, known);
         return picture.sums[declaration];
     }
 
     public int quota(int asker, int time, int known) throws IllegalArgumentException {
         requireBelow(asker, ASKERS);
-        requireTimes(time, known);
-        order.gather(acts, time, known);
+        gather(time, known);
         shares.serveAll(acts, order);
         return shares.given[asker];
     }
@@ -104,7 +99,6 @@ public final class PlainPort {
     public int apart(int box, int other, int time, int known) throws IllegalArgumentException {
         requireBelow(box, BOXES);
         requireBelow(other, BOXES);
-        requireTimes(time, known);
         draw(picture, time, known);
         int from = picture.slots[box];
         int to = picture.slots[other];
@@ -112,7 +106,6 @@ public final class PlainPort {
     }
 
     public int least(int time, int known) throws IllegalArgumentException {
-        requireTimes(time, known);
         draw(picture, time, known);
         return bringing.leastWay(picture);
     }
@@ -140,8 +133,6 @@ public final class PlainPort {
     }
 
     public int changed(int time, int known, int other) throws IllegalArgumentException {
-        requireTimes(time, known);
-        requireTimes(time, other);
         draw(picture, time, known);
         draw(otherPicture, time, other);
         return picture.differencesFrom(otherPicture);
@@ -163,8 +154,16 @@ public final class PlainPort {
     }
 
     private void draw(Picture target, int time, int known) {
-        order.gather(acts, time, known);
+        gather(time, known);
         target.draw(acts, order);
+    }
+
+    /** Every question with times comes by here, so that wrong times are thrown out in one place. */
+    private void gather(int time, int known) {
+        if (!isTime(time) || !isTime(known)) {
+            throw new IllegalArgumentException("no such time");
+        }
+        order.gather(acts, time, known);
     }
 
     private static boolean isTime(int time) {
@@ -178,12 +177,6 @@ public final class PlainPort {
     private static void requireBelow(int number, int bound) {
         if (!isWithin(number, 0, bound - 1)) {
             throw new IllegalArgumentException("no such number");
-        }
-    }
-
-    private static void requireTimes(int time, int known) {
-        if (!isTime(time) || !isTime(known)) {
-            throw new IllegalArgumentException("no such time");
         }
     }
 
