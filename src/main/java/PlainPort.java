@@ -493,11 +493,12 @@ public final class PlainPort {
         /** The least cost at which the first boxes fill just the slots whose bits are set in taken. */
         private int leastFor(int taken) {
             int last = Integer.bitCount(taken) - 1;
-            int best = Integer.MAX_VALUE;
+            int best = NONE;
             for (int slot = 0; slot < size; slot++) {
                 int bit = 1 << slot;
                 if ((taken & bit) != 0) {
-                    best = Math.min(best, costs[taken ^ bit] + distance(from[last], slot));
+                    int cost = costs[taken ^ bit] + distance(from[last], slot);
+                    best = best == NONE ? cost : Math.min(best, cost);
                 }
             }
             return best;

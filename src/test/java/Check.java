@@ -5,20 +5,48 @@ final class Check {
     static final int LAST_TIME = 10000;
     private static int wrong = 0;
     private static int made = 0;
+    private static String about = "";
+    private static int madeBefore = 0;
 
     private Check() {
+    }
+
+    /** Names the sentence that the answers from here on are due to; one without an answer is a fault. */
+    static void about(String sentence) {
+        if (!about.isEmpty() && made == madeBefore) {
+            fault("no answer was compared");
+        }
+        about = sentence;
+        madeBefore = made;
+    }
+
+    static void fault(String what) {
+        wrong++;
+        System.out.println(about.isEmpty() ? what : "[" + about + "] " + what);
     }
 
     static void due(String call, long got, long want) {
         made++;
         if (got != want) {
-            wrong++;
-            System.out.println(call + " answered " + got + ", due is " + want);
+            fault(call + " answered " + got + ", due is " + want);
         }
     }
 
     static void due(String call, boolean got, boolean want) {
         due(call, got ? 1L : 0L, want ? 1L : 0L);
+    }
+
+    /** An answer is due, and no exception of any class. */
+    static void answers(String call, LongSupplier run, long want) {
+        long got;
+        try {
+            got = run.getAsLong();
+        } catch (RuntimeException e) {
+            made++;
+            fault(call + " threw " + e + ", due is " + want);
+            return;
+        }
+        due(call, got, want);
     }
 
     /** An IllegalArgumentException of just that class is due. */
@@ -42,8 +70,7 @@ final class Check {
             }
             got = e.toString();
         }
-        wrong++;
-        System.out.println(call + " answered " + got + ", due is " + due.getName());
+        fault(call + " answered " + got + ", due is " + due.getName());
     }
 
     /** A call that asks with two times; tried with each of them out of 0 .. 10000. */
@@ -63,6 +90,7 @@ final class Check {
     }
 
     static void end() {
+        about("");
         System.out.println(made + " answers, " + wrong + " of them not as due");
         if (wrong != 0 || made == 0) {
             System.exit(1);
